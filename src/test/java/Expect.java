@@ -8,6 +8,8 @@ final class Expect {
         long answer();
     }
 
+    private static final int MOST_TOLD = 100;
+
     private final String test;
     private int calls = 0;
     private int wrong = 0;
@@ -28,7 +30,9 @@ final class Expect {
         calls++;
         if (!due.equals(got)) {
             wrong++;
-            System.out.println(test + ": " + call + " answered " + got + ", due is " + due);
+            if (wrong <= MOST_TOLD) {
+                System.out.println(test + ": " + call + " answered " + got + ", due is " + due);
+            }
         }
     }
 

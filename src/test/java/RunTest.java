@@ -1,0 +1,101 @@
+import java.util.NoSuchElementException;
+
+/** Promise 8: any list is laid out in display, however deep, and as often as wanted. */
+public final class RunTest {
+    private static final Expect EXPECT = new Expect("RunTest");
+
+    public static void main(String[] args) {
+        anyList();
+        refusals();
+        deepFences();
+        deepScripts();
+        manyRuns();
+        mostItems();
+        EXPECT.end();
+    }
+
+    private static void anyList() {
+        FormulaLists lists = new FormulaLists();
+        lists.atom(0, 0);
+        lists.atom(8, 0);
+        lists.atom(1, 1);
+        lists.script(0, true, 1);
+        EXPECT.answer("run(0)", 2, () -> lists.run(0));
+        EXPECT.answer("as a script", 7, () -> lists.item(1, 3));
+        EXPECT.answer("run(1), which is in an atom", 1, () -> lists.run(1));
+        EXPECT.item("in display", lists, 0, 0, 0, 0, 14, 70, 1, 1, 0);
+        EXPECT.answer("run(0) again", 2, () -> lists.run(0));
+        EXPECT.answer("as a script again", 7, () -> lists.item(1, 3));
+    }
+
+    private static void refusals() {
+        FormulaLists lists = new FormulaLists();
+        lists.atom(0, 0);
+        lists.run(0);
+        for (int wrong : new int[] {-1, 1, 30, Integer.MIN_VALUE, Integer.MAX_VALUE}) {
+            EXPECT.refusal("run(" + wrong + ")", NoSuchElementException.class, () -> lists.run(wrong));
+        }
+        EXPECT.sizes("what was laid out stays", lists, 40, 50, 0);
+        EXPECT.item("the item stays", lists, 0, 0, 0, 0, 10, 40, 0, 0, 0);
+    }
+
+    private static void deepFences() {
+        FormulaLists lists = new FormulaLists();
+        for (int list = 1; list < 30; list++) {
+            lists.atom(8, 0);
+            if (list > 1) {
+                lists.fence(1, list - 1, 1);
+            }
+        }
+        EXPECT.answer("28 fences, one in another", 56, () -> lists.run(29));
+        EXPECT.sizes("28 fences", lists, 28 * 60, 50, 10);
+        EXPECT.answer("the innermost left one", 27 * 30, () -> lists.item(27, 1));
+        EXPECT.answer("the innermost right one", 28 * 30, () -> lists.item(28, 1));
+        EXPECT.answer("the outermost right one", 55 * 30, () -> lists.item(55, 1));
+        EXPECT.answer("the innermost node", 0, () -> lists.item(28, 6));
+    }
+
+    private static void deepScripts() {
+        FormulaLists lists = new FormulaLists();
+        for (int list = 1; list < 30; list++) {
+            lists.atom(0, 0);
+            lists.atom(8, 0);
+            lists.script(list - 1, true, list);
+        }
+        lists.atom(0, 0);
+        EXPECT.answer("29 scripts, one at another", 30, () -> lists.run(0));
+        // The first is at 40, the second 28 above it, the others 20 each.
+        EXPECT.answer("the last one's line", 40 + 28 + 27 * 20, () -> lists.item(29, 2));
+        EXPECT.answer("the last one's x", 40 + 28 + 27 * 20, () -> lists.item(29, 1));
+    }
+
+    private static void manyRuns() {
+        FormulaLists lists = new FormulaLists();
+        for (int node = 0; node < 120; node++) {
+            lists.atom(node % 8, node);
+        }
+        String first = null;
+        for (int run = 0; run < 392; run++) {
+            EXPECT.answer("run " + run, 120, () -> lists.run(0));
+            String now = lists.item(-1, 0) + " " + lists.item(119, 1);
+            first = first == null ? now : first;
+            EXPECT.same("width of run " + run, first, now);
+        }
+    }
+
+    private static void mostItems() {
+        FormulaLists lists = new FormulaLists();
+        for (int list = 1; list < 30; list++) {
+            lists.atom(8, 0);
+            if (list > 1) {
+                lists.fence(1, list - 1, 1);
+            }
+        }
+        for (int node = 28; node < 120; node++) {
+            lists.atom(0, 0);
+        }
+        EXPECT.answer("28 fences and 92 signs", 148, () -> lists.run(29));
+        EXPECT.answer("the last one", 119, () -> lists.item(147, 6));
+        EXPECT.refusal("none behind it", IndexOutOfBoundsException.class, () -> lists.item(148, 6));
+    }
+}
