@@ -3,7 +3,7 @@ import java.util.NoSuchElementException;
 public final class FormulaLists {
     private static final int MOST_LISTS = 30;
     private static final int MOST_NODES = 120;
-    private static final int MOST_SIGNS = 256;
+    private static final int SIGNS = 256;
     private static final int MOST_RULE = 1000;
     private static final int MOST_CELLS_A_SIDE = 5;
     private static final int LAST_DELIMITER = 5;
@@ -64,7 +64,7 @@ public final class FormulaLists {
             open = beginList();
             return open.number;
         }
-        if (!isKind(kind) || nucleus < 0 || nucleus >= MOST_SIGNS) {
+        if (!isKind(kind) || nucleus < 0 || nucleus >= SIGNS) {
             throw new IllegalArgumentException("no such kind, or sign");
         }
         refuseWhenNodesAreFull();
@@ -326,7 +326,8 @@ public final class FormulaLists {
         return style <= TEXT ? told - 1 : 0;
     }
 
-    /** The items of one layout, each at its place, and the sizes of all of it. */
+    // One page is kept and filled anew by each run, so that runs make no
+    // objects; it holds copies, so that later changes don't touch its items.
     private static final class Page {
         static final int SIZES = 3;
 
@@ -418,7 +419,8 @@ public final class FormulaLists {
         }
     }
 
-    /** What a list, a nucleus or an atom takes up, and which items are its own. */
+    // Items are laid as if their box began at 0, since where it stands is known
+    // only later: so a box remembers which items move with it.
     private static final class Box {
         int width;
         int height;
@@ -449,7 +451,7 @@ public final class FormulaLists {
         }
     }
 
-    /** A list of the document, as a chain of its nodes. */
+    // Called Row, not List, since that is the library's name.
     private static final class Row {
         final int number;
         final Box box;
@@ -578,7 +580,8 @@ public final class FormulaLists {
         }
     }
 
-    /** An atom: its scripts, and by its subclass a nucleus. */
+    // The core is the nucleus alone: scripts are placed by its sizes, the list
+    // goes on by those of the whole box.
     private abstract static class Atom extends Node {
         final int kind;
         final Box core;
@@ -593,7 +596,6 @@ public final class FormulaLists {
             this.box = new Box();
         }
 
-        /** Lays the nucleus into the core, its items being added to the page. */
         abstract void layCore(Page page, int style, boolean cramped, int level);
 
         final int scriptCount() {
@@ -694,7 +696,6 @@ public final class FormulaLists {
             this.sign = sign;
         }
 
-        @Override
         void layCore(Page page, int style, boolean cramped, int level) {
             int size = kind == OPERATOR && style == DISPLAY ? BIG_OPERATOR : unit(style);
             core.width = size * (4 + sign % 5);
@@ -715,7 +716,6 @@ public final class FormulaLists {
             this.rule = rule;
         }
 
-        @Override
         void layCore(Page page, int style, boolean cramped, int level) {
             over.lay(page, fractionStyle(style), cramped, level + 1);
             under.lay(page, fractionStyle(style), true, level + 1);
@@ -750,7 +750,6 @@ public final class FormulaLists {
             this.right = right;
         }
 
-        @Override
         void layCore(Page page, int style, boolean cramped, int level) {
             // The left item comes before those of the list, whose height
             // tells its step: so it is added first and grows afterwards.
@@ -786,7 +785,8 @@ public final class FormulaLists {
             core.cover(top, whole - top);
         }
 
-        /** The first step that covers the list, or one behind the last if none does. */
+        // Where no step covers the list the answer is one behind the last, so
+        // that the caller can tell a short fence from one that just fits.
         private int firstStep(int style) {
             int above = inside.box.height - axis(style);
             int below = inside.box.depth + axis(style);
@@ -820,7 +820,6 @@ public final class FormulaLists {
             this.cells = cells;
         }
 
-        @Override
         void layCore(Page page, int style, boolean cramped, int level) {
             for (Row cell : cells) {
                 if (cell != null) {

@@ -121,6 +121,10 @@ public final class FractionTest {
         EXPECT.answer("a new list is no ring", 4, () -> lists.atom(8, 0));
         EXPECT.answer("the refused calls changed nothing", 2, () -> lists.fraction(1, 2, 0));
         EXPECT.refusal("lists in use", IllegalStateException.class, () -> lists.fraction(1, 2, 0));
+        lists.atom(8, 0);
+        lists.atom(8, 0);
+        EXPECT.refusal("the upper list is in use", IllegalStateException.class, () -> lists.fraction(1, 5, 0));
+        EXPECT.refusal("the lower list is in use", IllegalStateException.class, () -> lists.fraction(5, 2, 0));
     }
 
     private static void refusalsInTheirOrder() {

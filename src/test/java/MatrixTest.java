@@ -8,6 +8,7 @@ public final class MatrixTest {
         answersZero();
         refusesRings();
         columnsAndRows();
+        rowsAreOfTheirOwnHeight();
         halfOfAnOddHeight();
         styles();
         emptyCells();
@@ -95,6 +96,16 @@ public final class MatrixTest {
         EXPECT.item("row 1, column 0", lists, 2, 0, 0, -45, 10, 80, 4, 2, 0);
         EXPECT.item("row 1, column 1", lists, 3, 0, 110, -45, 10, 60, 7, 3, 0);
         EXPECT.sizes("matrix", lists, 170, 105, 65);
+    }
+
+    private static void rowsAreOfTheirOwnHeight() {
+        FormulaLists lists = withLists(0, 5, 11, 0);
+        lists.matrix(2, 2);
+        lists.run(5);
+        // Rows: 70 high and not deep; 70 high and 20 deep; 20 between: 180 in all, from -70 to 110.
+        EXPECT.answer("row 0", 110 - 70, () -> lists.item(0, 2));
+        EXPECT.answer("row 1", -70 + 20, () -> lists.item(2, 2));
+        EXPECT.sizes("rows of unlike depth", lists, 50 + 30 + 40, 110, 70);
     }
 
     private static void halfOfAnOddHeight() {

@@ -7,6 +7,7 @@ public final class RunTest {
     public static void main(String[] args) {
         anyList();
         refusals();
+        leavesNothingOfAnEarlierRun();
         deepFences();
         deepScripts();
         manyRuns();
@@ -37,6 +38,31 @@ public final class RunTest {
         }
         EXPECT.sizes("what was laid out stays", lists, 40, 50, 0);
         EXPECT.item("the item stays", lists, 0, 0, 0, 0, 10, 40, 0, 0, 0);
+    }
+
+    private static void leavesNothingOfAnEarlierRun() {
+        FormulaLists lists = new FormulaLists();
+        lists.atom(8, 0);
+        lists.atom(8, 0);
+        lists.atom(8, 0);
+        lists.atom(1, 3);
+        lists.atom(8, 0);
+        lists.fraction(1, 2, 900);
+        lists.atom(8, 0);
+        lists.fence(1, 4, 1);
+        lists.run(5);
+        EXPECT.answer("a short fence", 1, () -> lists.item(0, 7));
+        EXPECT.answer("run of the fraction alone", 1, () -> lists.run(4));
+        EXPECT.item("its rule", lists, 0, 1, 0, -430, 900, 10, 0, 1, 0);
+        EXPECT.answer("run of the sign alone", 1, () -> lists.run(3));
+        EXPECT.item("the sign", lists, 0, 0, 0, 0, 14, 98, 3, 0, 0);
+        EXPECT.sizes("the sign", lists, 98, 70, 28);
+        lists.atom(8, 0);
+        lists.atom(0, 0);
+        lists.script(3, true, 3);
+        lists.run(6);
+        EXPECT.answer("the sign as a script", 7, () -> lists.item(1, 3));
+        EXPECT.sizes("with the sign as a script", lists, 40 + 49 + 5, 75, 0);
     }
 
     private static void deepFences() {
