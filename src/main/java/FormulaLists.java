@@ -397,9 +397,6 @@ public final class FormulaLists {
         }
 
         void move(Box box, int right, int up) {
-            if (right == 0 && up == 0) {
-                return;
-            }
             for (int item = box.from; item < box.to; item++) {
                 if (has(item, Y)) {
                     values[item * FIELDS + X] += right;

@@ -13,7 +13,14 @@ public final class FenceTest {
         widths();
         smallStyles();
         insideStaysAsItIs();
-        refusals();
+        emptyList();
+        coversTheGreaterSideOfTheAxis();
+        delimitersAlikeInStep();
+        refusesListsThatAreNotThere();
+        refusesOtherDelimiters();
+        refusesListsThatAreNotFree();
+        refusesRings();
+        nodesEnd();
         refusalsInTheirOrder();
         EXPECT.end();
     }
@@ -39,6 +46,7 @@ public final class FenceTest {
         EXPECT.sizes("fence", lists, 150, 70, 30);
     }
 
+    /** "0 has no item, and width Z / 2" */
     private static void oneSide() {
         FormulaLists left = one(0);
         EXPECT.answer("fence(3, 1, 0)", 2, () -> left.fence(3, 1, 0));
@@ -52,6 +60,7 @@ public final class FenceTest {
         EXPECT.item("right", right, 1, 2, 45, 0, 0, 40, 5, 1, 0);
     }
 
+    /** "0 when it is UNBALANCED: unless both delimiters are the same and not 0, or just one is 0" */
     private static void balance() {
         for (int left = 0; left <= 5; left++) {
             for (int right = 0; right <= 5; right++) {
@@ -64,7 +73,9 @@ public final class FenceTest {
             }
         }
         FormulaLists again = one(0);
-        again.fence(1, 1, 2);
+        EXPECT.answer("unlike delimiters", 0, () -> again.fence(1, 1, 2));
+        EXPECT.answer("none on either side", 0, () -> again.fence(0, 1, 0));
+        EXPECT.answer("nothing is laid out", 0, () -> again.run(2));
         EXPECT.answer("the list of an unbalanced one is still free", 2, () -> again.fence(1, 1, 1));
     }
 
@@ -81,6 +92,7 @@ public final class FenceTest {
         return lists;
     }
 
+    /** "the first one that is at least nine tenths of that is taken, the last one if there is none (SHORT)" */
     private static void steps() {
         // What must be covered is t + 60 (t even); steps are 60, 100, 140, 180, 220 high.
         int[][] due = {{2, 0, 0}, {6, 0, 0}, {8, 1, 0}, {50, 1, 0}, {52, 2, 0}, {94, 2, 0}, {96, 3, 0}, {140, 3, 0},
@@ -95,6 +107,7 @@ public final class FenceTest {
         }
     }
 
+    /** "10 times it is at least 9 times what must be" */
     private static void nineTenths() {
         // 200 must be covered (t is 140): 180 is just nine tenths.
         FormulaLists lists = aroundRule(140);
@@ -146,32 +159,130 @@ public final class FenceTest {
         EXPECT.answer("what is cramped stays so", 30, () -> lists.item(3, 2));
     }
 
-    private static void refusals() {
-        FormulaLists lists = one(0);
-        EXPECT.refusal("no such list", NoSuchElementException.class, () -> lists.fence(1, 3, 1));
-        EXPECT.refusal("a list below 0", NoSuchElementException.class, () -> lists.fence(1, -1, 1));
-        EXPECT.refusal("delimiter 6", IllegalArgumentException.class, () -> lists.fence(6, 1, 1));
-        EXPECT.refusal("delimiter 6 on the right", IllegalArgumentException.class, () -> lists.fence(1, 1, 6));
-        EXPECT.refusal("delimiter -1", IllegalArgumentException.class, () -> lists.fence(-1, 1, 0));
-        EXPECT.refusal("delimiter -1 on the right", IllegalArgumentException.class, () -> lists.fence(0, 1, -1));
-        EXPECT.refusal("list 0", IllegalStateException.class, () -> lists.fence(1, 0, 1));
-        EXPECT.refusal("the open list", IllegalStateException.class, () -> lists.fence(1, 2, 1));
-        EXPECT.refusal("the open list in an unbalanced one", IllegalStateException.class, () -> lists.fence(0, 2, 0));
-        lists.script(0, true, 2);
-        EXPECT.refusal("the open list is in it", IllegalStateException.class, () -> lists.fence(1, 1, 1));
+    /** Twice the axis must be covered round nothing, so that the least step does. */
+    private static void emptyList() {
+        FormulaLists lists = new FormulaLists();
         lists.atom(8, 0);
-        EXPECT.answer("a free list", 2, () -> lists.fence(1, 1, 1));
-        EXPECT.refusal("a list in use", IllegalStateException.class, () -> lists.fence(1, 1, 1));
+        lists.atom(8, 0);
+        EXPECT.answer("round nothing", 1, () -> lists.fence(1, 1, 1));
+        EXPECT.answer("two delimiters", 2, () -> lists.run(2));
+        EXPECT.item("left", lists, 0, 2, 0, 0, 0, 30, 1, 0, 0);
+        EXPECT.item("right", lists, 1, 2, 30, 0, 0, 30, 1, 0, 0);
+        EXPECT.sizes("round nothing", lists, 60, 50, 10);
     }
 
+    /** "twice the greater one of (height less the axis) and (depth and the axis)" */
+    private static void coversTheGreaterSideOfTheAxis() {
+        FormulaLists deep = new FormulaLists();
+        deep.atom(8, 0);
+        deep.atom(0, 3);
+        deep.atom(8, 0);
+        deep.atom(0, 3);
+        deep.script(0, false, 2);
+        deep.atom(8, 0);
+        deep.fence(1, 1, 1);
+        deep.run(3);
+        // 50 high and 30 + 14 deep: 30 above the axis, 64 below it: 128 must be covered, 115.2 at nine tenths.
+        EXPECT.answer("by the depth", 2, () -> deep.item(0, 3));
+        FormulaLists high = new FormulaLists();
+        high.atom(8, 0);
+        high.atom(0, 0);
+        high.atom(8, 0);
+        high.atom(0, 1);
+        high.script(0, true, 2);
+        high.atom(8, 0);
+        high.fence(1, 1, 1);
+        high.run(3);
+        // 40 + 42 high and not deep: 62 above the axis: 124 must be covered, 111.6 at nine tenths.
+        EXPECT.answer("by the height", 2, () -> high.item(0, 3));
+    }
+
+    /** The step is told by the list alone, so a missing one on the other side changes nothing. */
+    private static void delimitersAlikeInStep() {
+        for (int[] sides : new int[][] {{4, 4}, {4, 0}, {0, 4}}) {
+            FormulaLists lists = one(3);
+            lists.fence(sides[0], 1, sides[1]);
+            lists.run(2);
+            int item = sides[0] == 0 ? 1 : 0;
+            EXPECT.answer("step of " + sides[0] + ", " + sides[1], 1, () -> lists.item(item, 3));
+            EXPECT.answer("depth of " + sides[0] + ", " + sides[1], 30, () -> lists.item(-1, 2));
+        }
+    }
+
+    /** "NoSuchElementException" */
+    private static void refusesListsThatAreNotThere() {
+        FormulaLists lists = one(0);
+        for (int wrong : new int[] {-1, 3, 30, Integer.MIN_VALUE, Integer.MAX_VALUE}) {
+            EXPECT.refusal("no list " + wrong, NoSuchElementException.class, () -> lists.fence(1, wrong, 1));
+            EXPECT.refusal("no list " + wrong + ", unbalanced", NoSuchElementException.class, () -> lists.fence(0, wrong, 0));
+        }
+        EXPECT.answer("nothing was made", 2, () -> lists.fence(1, 1, 1));
+    }
+
+    /** "IllegalArgumentException when one is not 0 .. 5" */
+    private static void refusesOtherDelimiters() {
+        FormulaLists lists = one(0);
+        for (int wrong : new int[] {-1, 6, Integer.MIN_VALUE, Integer.MAX_VALUE}) {
+            EXPECT.refusal(wrong + " on the left", IllegalArgumentException.class, () -> lists.fence(wrong, 1, 0));
+            EXPECT.refusal(wrong + " on the right", IllegalArgumentException.class, () -> lists.fence(0, 1, wrong));
+            EXPECT.refusal(wrong + " on both sides", IllegalArgumentException.class, () -> lists.fence(wrong, 1, wrong));
+            EXPECT.refusal(wrong + " and 5", IllegalArgumentException.class, () -> lists.fence(wrong, 1, 5));
+        }
+        EXPECT.answer("nothing was made", 2, () -> lists.fence(5, 1, 5));
+    }
+
+    /** "IllegalStateException": the list is not free. */
+    private static void refusesListsThatAreNotFree() {
+        FormulaLists lists = one(0);
+        EXPECT.refusal("list 0", IllegalStateException.class, () -> lists.fence(1, 0, 1));
+        EXPECT.refusal("list 0, unbalanced", IllegalStateException.class, () -> lists.fence(1, 0, 2));
+        EXPECT.answer("a free list", 2, () -> lists.fence(1, 1, 1));
+        EXPECT.refusal("a list in use", IllegalStateException.class, () -> lists.fence(1, 1, 1));
+        EXPECT.refusal("a list in use, unbalanced", IllegalStateException.class, () -> lists.fence(0, 1, 0));
+        EXPECT.answer("one fence was made", 2, () -> lists.atom(0, 0));
+    }
+
+    /** "IllegalStateException": there would be a ring. */
+    private static void refusesRings() {
+        FormulaLists lists = one(0);
+        EXPECT.refusal("the open list", IllegalStateException.class, () -> lists.fence(1, 2, 1));
+        EXPECT.refusal("the open list, unbalanced", IllegalStateException.class, () -> lists.fence(0, 2, 0));
+        lists.script(0, true, 2);
+        EXPECT.refusal("the open list is in it", IllegalStateException.class, () -> lists.fence(1, 1, 1));
+        EXPECT.refusal("the open list is in it, unbalanced", IllegalStateException.class, () -> lists.fence(3, 1, 4));
+        lists.atom(8, 0);
+        EXPECT.answer("from another list", 2, () -> lists.fence(1, 1, 1));
+    }
+
+    /** "UnsupportedOperationException": the 120th node is made, the next one is not. */
+    private static void nodesEnd() {
+        FormulaLists lists = one(0);
+        lists.atom(8, 0);
+        for (int node = 1; node < 119; node++) {
+            lists.atom(0, 0);
+        }
+        EXPECT.answer("an unbalanced one is not the 120th node", 0, () -> lists.fence(1, 1, 2));
+        EXPECT.answer("the 120th node", 120, () -> lists.fence(1, 1, 1));
+        EXPECT.refusal("one more", UnsupportedOperationException.class, () -> lists.fence(1, 2, 1));
+        EXPECT.refusal("one more, unbalanced", UnsupportedOperationException.class, () -> lists.fence(1, 2, 2));
+        EXPECT.answer("the list is still free", 1, () -> lists.script(1, true, 2));
+    }
+
+    /** "it is the one that it names first" */
     private static void refusalsInTheirOrder() {
         FormulaLists lists = one(0);
+        EXPECT.refusal("no list, and a delimiter", NoSuchElementException.class, () -> lists.fence(6, 9, 1));
+        EXPECT.refusal("a delimiter, and list 0", IllegalArgumentException.class, () -> lists.fence(6, 0, 6));
+        EXPECT.refusal("a delimiter, and a ring", IllegalArgumentException.class, () -> lists.fence(0, 2, -1));
         for (int node = 1; node < 120; node++) {
             lists.atom(0, 0);
         }
         EXPECT.refusal("no list goes first", NoSuchElementException.class, () -> lists.fence(6, 9, 6));
+        EXPECT.refusal("no list, and 120 nodes", NoSuchElementException.class, () -> lists.fence(1, 9, 1));
         EXPECT.refusal("then the delimiters", IllegalArgumentException.class, () -> lists.fence(6, 2, 6));
+        EXPECT.refusal("a delimiter, and 120 nodes", IllegalArgumentException.class, () -> lists.fence(1, 1, 6));
         EXPECT.refusal("then the state", IllegalStateException.class, () -> lists.fence(1, 2, 1));
+        EXPECT.refusal("list 0, and 120 nodes", IllegalStateException.class, () -> lists.fence(1, 0, 1));
         EXPECT.refusal("then 120 nodes", UnsupportedOperationException.class, () -> lists.fence(1, 1, 1));
         EXPECT.refusal("before it is unbalanced", UnsupportedOperationException.class, () -> lists.fence(1, 1, 2));
         EXPECT.answer("list 1 is still free", 1, () -> lists.script(1, true, 1));

@@ -4,35 +4,101 @@ public final class ItemTest {
 
     public static void main(String[] args) {
         withoutABox();
-        bounds();
+        otherItems();
+        otherValues();
+        otherSizes();
+        theLastItem();
+        eachForm();
         staysUntilTheNextRun();
         order();
         EXPECT.end();
     }
 
+    /** "(0 without one)" */
     private static void withoutABox() {
         FormulaLists lists = new FormulaLists();
         lists.atom(0, 9);
         EXPECT.sizes("before a run", lists, 0, 0, 0);
         EXPECT.refusal("item(0, 0) before a run", IndexOutOfBoundsException.class, () -> lists.item(0, 0));
         EXPECT.refusal("item(-1, 3) before a run", IndexOutOfBoundsException.class, () -> lists.item(-1, 3));
+        EXPECT.refusal("item(-1, -1) before a run", IndexOutOfBoundsException.class, () -> lists.item(-1, -1));
+        EXPECT.refusal("run of no list", java.util.NoSuchElementException.class, () -> lists.run(1));
+        EXPECT.sizes("before a run that is not refused", lists, 0, 0, 0);
     }
 
-    private static void bounds() {
+    private static FormulaLists twoItems() {
         FormulaLists lists = new FormulaLists();
         lists.atom(0, 9);
         lists.atom(0, 3);
         lists.run(0);
-        int[][] wrong = {{2, 0}, {-2, 0}, {-2, 8}, {0, 8}, {0, -1}, {1, 8}, {-1, 3}, {-1, -1}, {-1, 7}, {Integer.MAX_VALUE, 0},
-            {Integer.MIN_VALUE, 0}, {0, Integer.MAX_VALUE}, {0, Integer.MIN_VALUE}, {1 << 29, 0}, {1, -8}};
-        for (int[] pair : wrong) {
-            EXPECT.refusal("item(" + pair[0] + ", " + pair[1] + ")", IndexOutOfBoundsException.class, () -> lists.item(pair[0], pair[1]));
-        }
+        return lists;
+    }
+
+    private static void bothAreThere(FormulaLists lists) {
         EXPECT.item("item 0", lists, 0, 0, 0, 0, 10, 80, 9, 0, 0);
         EXPECT.item("item 1", lists, 1, 0, 80, 0, 10, 70, 3, 1, 0);
         EXPECT.sizes("sizes", lists, 150, 50, 20);
     }
 
+    /** "IndexOutOfBoundsException": an item too small, or too large. */
+    private static void otherItems() {
+        FormulaLists lists = twoItems();
+        for (int wrong : new int[] {2, -2, 150, 1 << 29, -(1 << 29), Integer.MAX_VALUE, Integer.MIN_VALUE}) {
+            for (int what = 0; what < 8; what++) {
+                int asked = what;
+                EXPECT.refusal("item(" + wrong + ", " + what + ")", IndexOutOfBoundsException.class, () -> lists.item(wrong, asked));
+            }
+        }
+        bothAreThere(lists);
+    }
+
+    /** "IndexOutOfBoundsException": of an item there are 0 .. 7. */
+    private static void otherValues() {
+        FormulaLists lists = twoItems();
+        for (int wrong : new int[] {-1, 8, -8, 16, Integer.MAX_VALUE, Integer.MIN_VALUE}) {
+            EXPECT.refusal("item(0, " + wrong + ")", IndexOutOfBoundsException.class, () -> lists.item(0, wrong));
+            EXPECT.refusal("item(1, " + wrong + ")", IndexOutOfBoundsException.class, () -> lists.item(1, wrong));
+        }
+        bothAreThere(lists);
+    }
+
+    /** "IndexOutOfBoundsException": of the box there are 0 .. 2. */
+    private static void otherSizes() {
+        FormulaLists lists = twoItems();
+        for (int wrong : new int[] {-1, 3, 4, 5, 6, 7, 8, Integer.MAX_VALUE, Integer.MIN_VALUE}) {
+            EXPECT.refusal("item(-1, " + wrong + ")", IndexOutOfBoundsException.class, () -> lists.item(-1, wrong));
+        }
+        bothAreThere(lists);
+    }
+
+    private static void theLastItem() {
+        FormulaLists lists = new FormulaLists();
+        for (int node = 0; node < 120; node++) {
+            lists.atom(0, node);
+        }
+        lists.run(0);
+        EXPECT.answer("the last one's sign", 119, () -> lists.item(119, 5));
+        EXPECT.answer("whether it is short", 0, () -> lists.item(119, 7));
+        EXPECT.refusal("one behind it", IndexOutOfBoundsException.class, () -> lists.item(120, 0));
+    }
+
+    /** "0 sign, 1 rule, 2 delimiter", "(0 of a rule)", "whether it is SHORT (1, or 0)" */
+    private static void eachForm() {
+        FormulaLists lists = new FormulaLists();
+        lists.atom(8, 0);
+        lists.atom(0, 255);
+        lists.atom(8, 0);
+        lists.atom(8, 0);
+        lists.fraction(1, 2, 1000);
+        lists.atom(8, 0);
+        lists.fence(5, 3, 0);
+        lists.run(4);
+        EXPECT.item("a short delimiter", lists, 0, 2, 0, 0, 4, 40, 5, 2, 1);
+        EXPECT.item("a sign", lists, 1, 0, 45, 20 + 500 + 30 + 20, 10, 40, 255, 0, 0);
+        EXPECT.item("a rule", lists, 2, 1, 40, -480, 1000, 50, 0, 1, 0);
+    }
+
+    /** "Of the box that was laid out last" */
     private static void staysUntilTheNextRun() {
         FormulaLists lists = new FormulaLists();
         lists.atom(0, 0);

@@ -11,7 +11,10 @@ public final class KindTest {
         rows();
         overStyleNodes();
         asTheListIsNow();
+        afterASplit();
         listByList();
+        innerOnes();
+        theLastNode();
         refusals();
         EXPECT.end();
     }
@@ -24,6 +27,7 @@ public final class KindTest {
         }
     }
 
+    /** "or the one before it counts as 1, 2, 3, 4 or 6" */
     private static void byTheOneBefore() {
         int[] due = {2, 0, 0, 0, 0, 2, 0, 2};
         for (int before = 0; before < 8; before++) {
@@ -38,6 +42,7 @@ public final class KindTest {
         }
     }
 
+    /** "or if the next one is 3, 5 or 6" */
     private static void byTheNextOne() {
         int[] due = {2, 2, 2, 0, 2, 0, 0, 2};
         for (int next = 0; next < 8; next++) {
@@ -49,6 +54,7 @@ public final class KindTest {
         }
     }
 
+    /** "if it is the first atom", "counts as 2", "or there is none" */
     private static void rows() {
         FormulaLists lists = new FormulaLists();
         lists.atom(0, 0);
@@ -68,6 +74,7 @@ public final class KindTest {
         EXPECT.answer("binary first", 0, () -> alone.kind(0));
     }
 
+    /** "(style nodes are not looked at)" */
     private static void overStyleNodes() {
         FormulaLists lists = new FormulaLists();
         lists.style(0, false);
@@ -88,6 +95,7 @@ public final class KindTest {
         EXPECT.answer("first but for a style node", 0, () -> first.kind(1));
     }
 
+    /** "as its list is now" */
     private static void asTheListIsNow() {
         FormulaLists lists = new FormulaLists();
         lists.atom(0, 0);
@@ -107,6 +115,25 @@ public final class KindTest {
         EXPECT.answer("the relation itself", 3, () -> lists.kind(4));
     }
 
+    private static void afterASplit() {
+        FormulaLists lists = new FormulaLists();
+        for (int kind : new int[] {0, 2, 3, 0, 2, 0}) {
+            lists.atom(kind, 0);
+        }
+        lists.split(0, 0);
+        EXPECT.answer("the last of what stays", 0, () -> lists.kind(1));
+        EXPECT.answer("the first of the new list", 3, () -> lists.kind(2));
+        EXPECT.answer("in the new list", 2, () -> lists.kind(4));
+        FormulaLists longer = new FormulaLists();
+        for (int kind : new int[] {0, 2, 3}) {
+            longer.atom(kind, 0);
+        }
+        longer.atom(8, 0);
+        longer.split(0, 0);
+        EXPECT.answer("nothing behind what stays", 0, () -> longer.kind(1));
+    }
+
+    /** "list by list" */
     private static void listByList() {
         FormulaLists lists = new FormulaLists();
         lists.atom(0, 0);
@@ -118,6 +145,35 @@ public final class KindTest {
         EXPECT.answer("and so in a script", 0, () -> lists.kind(1));
     }
 
+    /** "a fraction, a fence, or a matrix (these three are inner)": binary ones bind them. */
+    private static void innerOnes() {
+        FormulaLists lists = new FormulaLists();
+        for (int list = 1; list <= 5; list++) {
+            lists.atom(8, 0);
+        }
+        lists.fraction(1, 2, 0);
+        lists.atom(2, 0);
+        lists.fence(1, 3, 1);
+        lists.atom(2, 0);
+        lists.matrix(1, 1);
+        int[] due = {7, 2, 7, 2, 7};
+        for (int node = 0; node < due.length; node++) {
+            int asked = node;
+            EXPECT.answer("inner ones, node " + node, due[node], () -> lists.kind(asked));
+        }
+    }
+
+    private static void theLastNode() {
+        FormulaLists lists = new FormulaLists();
+        for (int node = 0; node < 119; node++) {
+            lists.atom(0, 0);
+        }
+        lists.atom(2, 0);
+        EXPECT.answer("kind(119)", 0, () -> lists.kind(119));
+        EXPECT.refusal("kind(120)", NoSuchElementException.class, () -> lists.kind(120));
+    }
+
+    /** "NoSuchElementException (also for a style node)" */
     private static void refusals() {
         FormulaLists lists = new FormulaLists();
         lists.atom(0, 0);

@@ -5,11 +5,15 @@ public final class MatrixTest {
     public static void main(String[] args) {
         takesTheLastFreeLists();
         skipsWhatIsNotFree();
-        answersZero();
+        otherRowsOrColumns();
+        firstAndLastRowsAndColumns();
+        notSoManyLists();
         refusesRings();
+        ringOfOneThatIsNotTaken();
         columnsAndRows();
         rowsAreOfTheirOwnHeight();
         halfOfAnOddHeight();
+        midstIsDownward();
         styles();
         emptyCells();
         manyCells();
@@ -61,21 +65,48 @@ public final class MatrixTest {
         EXPECT.answer("the list that was split off comes last", 2, () -> split.item(1, 5));
     }
 
-    private static void answersZero() {
+    /** "0 when rows or columns are not 1 .. 5", and nothing is made. */
+    private static void otherRowsOrColumns() {
         FormulaLists lists = withLists(1, 2, 3, 4, 5, 6);
-        int[][] wrong = {{0, 1}, {1, 0}, {6, 1}, {1, 6}, {-1, -1}, {Integer.MIN_VALUE, 1}, {1, Integer.MAX_VALUE},
-            {65536, 65536}, {3, 3}, {5, 2}, {2, 4}};
-        for (int[] pair : wrong) {
+        int[] wrong = {0, -1, 6, Integer.MIN_VALUE, Integer.MAX_VALUE, 1 << 16, -(1 << 16)};
+        for (int size : wrong) {
+            EXPECT.answer("matrix(" + size + ", 1)", 0, () -> lists.matrix(size, 1));
+            EXPECT.answer("matrix(1, " + size + ")", 0, () -> lists.matrix(1, size));
+            EXPECT.answer("matrix(" + size + ", " + size + ")", 0, () -> lists.matrix(size, size));
+        }
+        EXPECT.answer("two below 0 whose product is 1", 0, () -> lists.matrix(-1, -1));
+        EXPECT.answer("run(7)", 0, () -> lists.run(7));
+        EXPECT.answer("all lists are free still", 7, () -> lists.matrix(3, 2));
+    }
+
+    private static void firstAndLastRowsAndColumns() {
+        for (int[] pair : new int[][] {{1, 1}, {1, 5}, {5, 1}}) {
+            FormulaLists lists = withLists(1, 2, 3, 4, 5);
+            EXPECT.answer("matrix(" + pair[0] + ", " + pair[1] + ")", 6, () -> lists.matrix(pair[0], pair[1]));
+            EXPECT.answer("its cells", pair[0] * pair[1], () -> lists.run(6));
+            EXPECT.answer("its last cell", 5, () -> lists.item(pair[0] * pair[1] - 1, 5));
+        }
+    }
+
+    /** "there are not so many lists": neither list 0 nor the open one counts, nor one that is not free. */
+    private static void notSoManyLists() {
+        FormulaLists lists = withLists(1, 2, 3, 4, 5, 6);
+        for (int[] pair : new int[][] {{3, 3}, {5, 2}, {2, 4}, {5, 5}}) {
             EXPECT.answer("matrix(" + pair[0] + ", " + pair[1] + ")", 0, () -> lists.matrix(pair[0], pair[1]));
         }
         EXPECT.answer("run(7) after refusals", 0, () -> lists.run(7));
         EXPECT.answer("matrix(3, 2) takes just all", 7, () -> lists.matrix(3, 2));
+        EXPECT.answer("none is left", 0, () -> lists.matrix(1, 1));
         FormulaLists none = new FormulaLists();
         EXPECT.answer("list 0 is never taken", 0, () -> none.matrix(1, 1));
         none.atom(8, 0);
         EXPECT.answer("the open list and list 0 are not taken", 0, () -> none.matrix(1, 1));
+        none.atom(8, 0);
+        EXPECT.answer("one list for two cells", 0, () -> none.matrix(1, 2));
+        EXPECT.answer("one list for one cell", 1, () -> none.matrix(1, 1));
     }
 
+    /** "or there would be a ring" */
     private static void refusesRings() {
         FormulaLists lists = withLists(1, 2);
         lists.script(1, true, 3);
@@ -84,6 +115,14 @@ public final class MatrixTest {
         EXPECT.answer("nothing was made", 2, () -> lists.atom(0, 0));
         lists.atom(8, 0);
         EXPECT.answer("with another open list", 4, () -> lists.matrix(2, 1));
+    }
+
+    /** Only the lists that began last are looked at: a ring through an earlier one does not matter. */
+    private static void ringOfOneThatIsNotTaken() {
+        FormulaLists lists = withLists(1, 2);
+        lists.script(0, true, 3);
+        EXPECT.answer("list 2 is no ring", 3, () -> lists.matrix(1, 1));
+        EXPECT.answer("list 1 is one", 0, () -> lists.matrix(1, 1));
     }
 
     private static void columnsAndRows() {
@@ -106,8 +145,15 @@ public final class MatrixTest {
         EXPECT.answer("row 0", 110 - 70, () -> lists.item(0, 2));
         EXPECT.answer("row 1", -70 + 20, () -> lists.item(2, 2));
         EXPECT.sizes("rows of unlike depth", lists, 50 + 30 + 40, 110, 70);
+        FormulaLists wide = withLists(0, 5, 3);
+        wide.matrix(1, 3);
+        wide.run(4);
+        // The second one is the highest (70), the third one the deepest (20): 90 in all, from -25.
+        EXPECT.answer("their line", -5, () -> wide.item(0, 2));
+        EXPECT.sizes("one row", wide, 40 + 30 + 40 + 30 + 70, 65, 25);
     }
 
+    /** "with half of its whole height (downward) below the axis" */
     private static void halfOfAnOddHeight() {
         FormulaLists lists = withLists(0);
         lists.style(2, false);
@@ -118,6 +164,19 @@ public final class MatrixTest {
         EXPECT.sizes("a matrix of 35", lists, 28, 32, 3);
     }
 
+    /** "each list in its midst": odd, so downward. */
+    private static void midstIsDownward() {
+        FormulaLists lists = withLists(0, 1);
+        lists.style(2, false);
+        lists.matrix(2, 1);
+        lists.run(3);
+        // 28 and 35 wide: 7 / 2. Rows of 35 and 42, 14 between: 91, from 14 - 45.
+        EXPECT.item("the narrow one", lists, 0, 0, 3, -31 + 42 + 14, 7, 28, 0, 0, 0);
+        EXPECT.item("the wide one", lists, 1, 0, 0, -31, 7, 35, 1, 1, 0);
+        EXPECT.sizes("both", lists, 35, 60, 31);
+    }
+
+    /** "in style 1 if it was 0, else as it is, not cramped" */
     private static void styles() {
         int[] sizes = {10, 10, 7, 5};
         for (int style = 0; style < 4; style++) {
@@ -172,13 +231,17 @@ public final class MatrixTest {
         }
     }
 
+    /** "UnsupportedOperationException when there are 120 nodes", also where the answer would be 0. */
     private static void nodesEnd() {
-        FormulaLists lists = withLists(1);
-        for (int node = 1; node < 120; node++) {
+        FormulaLists lists = withLists(1, 2);
+        for (int node = 2; node < 119; node++) {
             lists.atom(0, 0);
         }
-        EXPECT.refusal("120 nodes", UnsupportedOperationException.class, () -> lists.matrix(1, 1));
+        EXPECT.answer("no such matrix is not the 120th node", 0, () -> lists.matrix(1, 6));
+        EXPECT.answer("the 120th node", 120, () -> lists.matrix(1, 1));
+        EXPECT.refusal("one more", UnsupportedOperationException.class, () -> lists.matrix(1, 1));
         EXPECT.refusal("120 nodes and no such matrix", UnsupportedOperationException.class, () -> lists.matrix(0, 9));
-        EXPECT.answer("list 1 is still free", 1, () -> lists.script(1, true, 1));
+        EXPECT.refusal("120 nodes and not so many lists", UnsupportedOperationException.class, () -> lists.matrix(5, 5));
+        EXPECT.answer("list 1 is still free", 1, () -> lists.script(2, true, 1));
     }
 }

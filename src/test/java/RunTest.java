@@ -6,8 +6,11 @@ public final class RunTest {
 
     public static void main(String[] args) {
         anyList();
+        emptyLists();
+        inDisplayNotCramped();
         refusals();
         leavesNothingOfAnEarlierRun();
+        smallerThanBefore();
         deepFences();
         deepScripts();
         manyRuns();
@@ -29,6 +32,36 @@ public final class RunTest {
         EXPECT.answer("as a script again", 7, () -> lists.item(1, 3));
     }
 
+    /** "Width is the sum, height and depth the greatest (0 at least)": without atoms all are 0. */
+    private static void emptyLists() {
+        FormulaLists lists = new FormulaLists();
+        lists.atom(0, 3);
+        lists.atom(8, 0);
+        lists.run(0);
+        EXPECT.answer("an empty list", 0, () -> lists.run(1));
+        EXPECT.sizes("an empty list", lists, 0, 0, 0);
+        lists.style(2, true);
+        EXPECT.answer("a list of a style", 0, () -> lists.run(1));
+        EXPECT.sizes("a list of a style", lists, 0, 0, 0);
+    }
+
+    /** "in display, not cramped": also a list whose atom is cramped, or small. */
+    private static void inDisplayNotCramped() {
+        FormulaLists lists = new FormulaLists();
+        lists.style(3, true);
+        lists.atom(0, 0);
+        lists.atom(8, 0);
+        lists.atom(0, 0);
+        lists.script(1, false, 1);
+        lists.atom(8, 0);
+        lists.atom(0, 0);
+        lists.script(2, true, 2);
+        lists.run(1);
+        EXPECT.answer("in display", 10, () -> lists.item(0, 3));
+        EXPECT.answer("not cramped", 40, () -> lists.item(1, 2));
+    }
+
+    /** "NoSuchElementException", which changes nothing of what was laid out before. */
     private static void refusals() {
         FormulaLists lists = new FormulaLists();
         lists.atom(0, 0);
@@ -63,6 +96,22 @@ public final class RunTest {
         lists.run(6);
         EXPECT.answer("the sign as a script", 7, () -> lists.item(1, 3));
         EXPECT.sizes("with the sign as a script", lists, 40 + 49 + 5, 75, 0);
+    }
+
+    private static void smallerThanBefore() {
+        FormulaLists lists = new FormulaLists();
+        lists.atom(0, 0);
+        lists.atom(3, 11);
+        lists.run(0);
+        EXPECT.sizes("with a high and deep one", lists, 40 + 30 + 50, 70, 20);
+        lists.split(0, 0);
+        lists.run(0);
+        EXPECT.sizes("without it", lists, 40, 50, 0);
+        lists.script(0, false, 1);
+        lists.run(1);
+        EXPECT.sizes("the other one in display", lists, 50, 70, 20);
+        lists.run(0);
+        EXPECT.sizes("the other one as a script", lists, 40 + 35 + 5, 50, 20 + 14);
     }
 
     private static void deepFences() {

@@ -6,19 +6,28 @@ public final class ScriptTest {
 
     public static void main(String[] args) {
         countsScripts();
-        refusesWhatMayNotComeIn();
+        refusesWhatIsNotThere();
+        refusesASecondOne();
+        refusesListsThatAreNotFree();
         refusesRings();
+        refusalsInTheirOrder();
+        refusalsChangeNothing();
         upperAlone();
         lowerAlone();
         upperOfTallNucleus();
         upperIsRaisedByItsDepth();
         lowerIsPushedDown();
+        justZApart();
         crampedUpperIsLower();
         limits();
+        oneLimit();
         wideLimits();
         operatorInTextHasNoLimits();
         stylesOfScripts();
+        smallNucleus();
         emptyScripts();
+        emptyLimits();
+        scriptsOfStructures();
         EXPECT.end();
     }
 
@@ -35,32 +44,87 @@ public final class ScriptTest {
         lists.script(0, upper, list);
     }
 
+    /** "how many scripts the atom has": 1, then 2, in either order. */
     private static void countsScripts() {
-        FormulaLists lists = nucleus(0, 0);
-        lists.atom(8, 0);
-        lists.atom(8, 0);
-        EXPECT.answer("lower first", 1, () -> lists.script(0, false, 2));
-        EXPECT.answer("then upper", 2, () -> lists.script(0, true, 1));
+        for (boolean first : new boolean[] {false, true}) {
+            FormulaLists lists = nucleus(0, 0);
+            lists.atom(8, 0);
+            lists.atom(8, 0);
+            EXPECT.answer("the first one", 1, () -> lists.script(0, first, 2));
+            EXPECT.answer("then the other", 2, () -> lists.script(0, !first, 1));
+        }
     }
 
-    private static void refusesWhatMayNotComeIn() {
+    /** Nodes: 0 a sign, 1 a style; lists 1 and 2, both empty. */
+    private static FormulaLists signAndStyle() {
         FormulaLists lists = nucleus(0, 0);
         lists.style(1, false);
         lists.atom(8, 0);
         lists.atom(8, 0);
-        EXPECT.refusal("no such node", NoSuchElementException.class, () -> lists.script(2, true, 1));
-        EXPECT.refusal("a node below 0", NoSuchElementException.class, () -> lists.script(-1, true, 1));
-        EXPECT.refusal("a style node", NoSuchElementException.class, () -> lists.script(1, true, 1));
-        EXPECT.refusal("no such list", NoSuchElementException.class, () -> lists.script(0, true, 3));
-        EXPECT.refusal("a list below 0", NoSuchElementException.class, () -> lists.script(0, true, -1));
-        EXPECT.refusal("list 0 is not free", IllegalStateException.class, () -> lists.script(0, true, 0));
-        EXPECT.answer("upper", 1, () -> lists.script(0, true, 1));
-        EXPECT.refusal("a second upper", IllegalStateException.class, () -> lists.script(0, true, 2));
-        EXPECT.refusal("a list in use", IllegalStateException.class, () -> lists.script(0, false, 1));
-        EXPECT.refusal("no such list goes before a second upper", NoSuchElementException.class, () -> lists.script(0, true, 9));
-        EXPECT.answer("lower after refusals", 2, () -> lists.script(0, false, 2));
+        return lists;
     }
 
+    /** "NoSuchElementException (also for a style node)" */
+    private static void refusesWhatIsNotThere() {
+        FormulaLists lists = signAndStyle();
+        for (int wrong : new int[] {-1, 2, 120, Integer.MIN_VALUE, Integer.MAX_VALUE}) {
+            EXPECT.refusal("no node " + wrong, NoSuchElementException.class, () -> lists.script(wrong, true, 1));
+        }
+        EXPECT.refusal("a style node", NoSuchElementException.class, () -> lists.script(1, true, 1));
+        EXPECT.refusal("a style node, lower", NoSuchElementException.class, () -> lists.script(1, false, 1));
+        for (int wrong : new int[] {-1, 3, 30, Integer.MIN_VALUE, Integer.MAX_VALUE}) {
+            EXPECT.refusal("no list " + wrong, NoSuchElementException.class, () -> lists.script(0, true, wrong));
+        }
+        EXPECT.answer("after refusals", 1, () -> lists.script(0, true, 1));
+    }
+
+    /** "IllegalStateException when it has one there": an upper one is none below, and the other way round. */
+    private static void refusesASecondOne() {
+        for (boolean upper : new boolean[] {false, true}) {
+            FormulaLists lists = signAndStyle();
+            lists.atom(8, 0);
+            lists.script(0, upper, 1);
+            EXPECT.refusal("a second one", IllegalStateException.class, () -> lists.script(0, upper, 2));
+            EXPECT.answer("on the other side", 2, () -> lists.script(0, !upper, 2));
+            EXPECT.refusal("a third one", IllegalStateException.class, () -> lists.script(0, upper, 3));
+            EXPECT.refusal("a third one on the other side", IllegalStateException.class, () -> lists.script(0, !upper, 3));
+        }
+    }
+
+    /** "the list is not free" */
+    private static void refusesListsThatAreNotFree() {
+        FormulaLists lists = signAndStyle();
+        EXPECT.refusal("list 0", IllegalStateException.class, () -> lists.script(0, true, 0));
+        lists.script(0, true, 1);
+        EXPECT.refusal("a list of the same atom", IllegalStateException.class, () -> lists.script(0, false, 1));
+        lists.atom(0, 0);
+        EXPECT.refusal("a list of another atom", IllegalStateException.class, () -> lists.script(2, false, 1));
+        EXPECT.refusal("list 0 from another list", IllegalStateException.class, () -> lists.script(2, true, 0));
+    }
+
+    /** "it is the one that it names first" */
+    private static void refusalsInTheirOrder() {
+        FormulaLists lists = signAndStyle();
+        lists.script(0, true, 1);
+        EXPECT.refusal("no list, and one is there", NoSuchElementException.class, () -> lists.script(0, true, 9));
+        EXPECT.refusal("no node, and list 0", NoSuchElementException.class, () -> lists.script(9, true, 0));
+        EXPECT.refusal("a style node, and a list in use", NoSuchElementException.class, () -> lists.script(1, true, 1));
+        EXPECT.refusal("no node, and no list", NoSuchElementException.class, () -> lists.script(-1, true, -1));
+    }
+
+    /** "A call that throws changes nothing" */
+    private static void refusalsChangeNothing() {
+        FormulaLists lists = signAndStyle();
+        lists.script(0, true, 1);
+        EXPECT.refusal("a second one", IllegalStateException.class, () -> lists.script(0, true, 2));
+        EXPECT.refusal("list 0", IllegalStateException.class, () -> lists.script(0, false, 0));
+        lists.atom(0, 5);
+        EXPECT.answer("the list of a refused call is not laid out", 1, () -> lists.run(0));
+        EXPECT.answer("and is free", 2, () -> lists.script(0, false, 2));
+        EXPECT.answer("then it is laid out", 2, () -> lists.run(0));
+    }
+
+    /** "or there would be a ring" */
     private static void refusesRings() {
         FormulaLists lists = new FormulaLists();
         lists.atom(8, 0);
@@ -158,15 +222,39 @@ public final class ScriptTest {
         EXPECT.answer("the lower one need not go down", -20, () -> just.item(2, 2));
     }
 
+    /** "if the upper one's bottom is less than Z above the lower one's top" */
+    private static void justZApart() {
+        int[][] due = {{30, -20}, {32, -21}, {50, -30}};
+        for (int[] row : due) {
+            FormulaLists lists = nucleus(0, 0);
+            lists.atom(8, 0);
+            lists.atom(8, 0);
+            int upper = lists.atom(8, 0);
+            lists.fraction(1, 2, row[0]);
+            lists.script(0, true, upper);
+            addScript(lists, false, 1);
+            lists.run(0);
+            // The upper one is t / 2 - 7 deep, its bottom 47 - t / 2; the top of the lower one at 2 Z is at 22.
+            EXPECT.answer("the lower one, rule " + row[0], row[1], () -> lists.item(2, 2));
+            EXPECT.answer("the upper one stays, rule " + row[0], 40 + 14 - row[0] / 2, () -> lists.item(1, 2));
+        }
+    }
+
+    /** "the nucleus's height less 2 Z, 4 Z (cramped 3 Z)": nuclei 5, 6 and 7 Z high. */
     private static void crampedUpperIsLower() {
-        FormulaLists lists = new FormulaLists();
-        lists.style(1, true);
-        lists.atom(0, 0);
-        int upper = lists.atom(8, 0);
-        lists.atom(0, 0);
-        lists.script(1, true, upper);
-        lists.run(0);
-        EXPECT.answer("cramped: at 3 Z", 30, () -> lists.item(1, 2));
+        int[][] due = {{40, 40, 50}, {30, 40, 50}};
+        for (int cramped = 0; cramped < 2; cramped++) {
+            for (int sign = 0; sign < 3; sign++) {
+                FormulaLists lists = new FormulaLists();
+                lists.style(1, cramped == 1);
+                lists.atom(0, sign);
+                int upper = lists.atom(8, 0);
+                lists.atom(0, 0);
+                lists.script(1, true, upper);
+                lists.run(0);
+                EXPECT.answer("sign " + sign + ", cramped " + cramped, due[cramped][sign], () -> lists.item(1, 2));
+            }
+        }
     }
 
     private static void limits() {
@@ -179,6 +267,19 @@ public final class ScriptTest {
         EXPECT.item("the upper limit", lists, 1, 0, 24, 70 + 10 + 14, 7, 49, 3, 1, 0);
         EXPECT.item("the lower limit", lists, 2, 0, 28, -(28 + 10 + 49), 7, 42, 2, 2, 0);
         EXPECT.sizes("with limits", lists, 98, 94 + 35, 87);
+    }
+
+    private static void oneLimit() {
+        FormulaLists upper = nucleus(1, 3);
+        addScript(upper, true, 0);
+        upper.run(0);
+        EXPECT.answer("an upper limit alone", 70 + 10, () -> upper.item(1, 2));
+        EXPECT.sizes("with an upper limit", upper, 98, 80 + 35, 28);
+        FormulaLists lower = nucleus(1, 3);
+        addScript(lower, false, 3);
+        lower.run(0);
+        EXPECT.item("a lower limit alone", lower, 1, 0, 24, -(28 + 10 + 35), 7, 49, 3, 1, 0);
+        EXPECT.sizes("with a lower limit", lower, 98, 70, 73 + 14);
     }
 
     private static void wideLimits() {
@@ -244,11 +345,84 @@ public final class ScriptTest {
         EXPECT.answer("lower ones are cramped", 21, () -> cramped.item(4, 2) - cramped.item(3, 2));
     }
 
+    /** "4 Z (cramped 3 Z)" above a nucleus so low that nothing else tells the line: an empty matrix. */
+    private static void smallNucleus() {
+        for (int cramped = 0; cramped < 2; cramped++) {
+            FormulaLists lists = new FormulaLists();
+            lists.atom(8, 0);
+            lists.atom(8, 0);
+            lists.style(1, cramped == 1);
+            lists.matrix(1, 1);
+            int upper = lists.atom(8, 0);
+            lists.atom(0, 0);
+            lists.script(1, true, upper);
+            lists.run(2);
+            EXPECT.answer("above a low nucleus, cramped " + cramped, cramped == 1 ? 30 : 40, () -> lists.item(0, 2));
+        }
+    }
+
+    /** Empty lists are scripts: they take Z / 2, and their line is their top and bottom. */
     private static void emptyScripts() {
         FormulaLists lists = nucleus(0, 0);
+        lists.atom(8, 0);
         lists.atom(8, 0);
         lists.script(0, true, 1);
         EXPECT.answer("run with an empty upper one", 1, () -> lists.run(0));
         EXPECT.sizes("an empty upper one takes Z / 2", lists, 45, 50, 0);
+        lists.script(0, false, 2);
+        EXPECT.answer("run with two empty ones", 1, () -> lists.run(0));
+        EXPECT.sizes("two empty ones", lists, 45, 50, 20);
+        FormulaLists lower = nucleus(0, 0);
+        lower.atom(8, 0);
+        lower.script(0, false, 1);
+        lower.run(0);
+        EXPECT.sizes("an empty lower one", lower, 45, 50, 20);
+        FormulaLists small = new FormulaLists();
+        small.atom(8, 0);
+        small.atom(8, 0);
+        small.matrix(1, 1);
+        small.atom(8, 0);
+        small.script(0, true, 3);
+        small.run(2);
+        EXPECT.sizes("an empty one above a small nucleus", small, 5, 40, 0);
+    }
+
+    private static void emptyLimits() {
+        FormulaLists lists = nucleus(1, 3);
+        lists.atom(8, 0);
+        lists.atom(8, 0);
+        lists.script(0, true, 1);
+        lists.script(0, false, 2);
+        EXPECT.answer("run with empty limits", 1, () -> lists.run(0));
+        EXPECT.sizes("empty limits", lists, 98, 80, 38);
+    }
+
+    /** "Of others": fractions, fences and matrices have no limits in display. */
+    private static void scriptsOfStructures() {
+        FormulaLists lists = new FormulaLists();
+        for (int list = 1; list <= 5; list++) {
+            lists.atom(8, 0);
+        }
+        lists.fraction(1, 2, 0);
+        lists.fence(1, 3, 0);
+        lists.matrix(1, 1);
+        int[] widths = {10, 35, 0};
+        for (int node = 0; node < 3; node++) {
+            int upper = lists.atom(8, 0);
+            lists.atom(0, 0);
+            int base = node;
+            EXPECT.answer("script of node " + node, 1, () -> lists.script(base, true, upper));
+            EXPECT.answer("run of its script", 1, () -> lists.run(upper));
+        }
+        lists.run(5);
+        // A fraction of empty lists is 50 high, an empty fence too, an empty matrix 20: all scripts are at 4 Z.
+        int x = 0;
+        int[] items = {0, 2, 3};
+        for (int node = 0; node < 3; node++) {
+            int begins = x + widths[node];
+            int item = items[node];
+            EXPECT.item("the script of node " + node, lists, item, 0, begins, 40, 7, 28, 0, 3 + node, 0);
+            x = begins + 28 + 5 + 10;
+        }
     }
 }

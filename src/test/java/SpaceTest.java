@@ -23,11 +23,14 @@ public final class SpaceTest {
         }
     }
 
+    /** "IllegalArgumentException when one is not 0 .. 7" */
     private static void refusals() {
         FormulaLists lists = new FormulaLists();
-        for (int wrong : new int[] {-1, 8, Integer.MIN_VALUE, Integer.MAX_VALUE}) {
+        for (int wrong : new int[] {-1, 8, 9, Integer.MIN_VALUE, Integer.MAX_VALUE}) {
             EXPECT.refusal("space(" + wrong + ", 0)", IllegalArgumentException.class, () -> lists.space(wrong, 0));
             EXPECT.refusal("space(0, " + wrong + ")", IllegalArgumentException.class, () -> lists.space(0, wrong));
+            EXPECT.refusal("space(" + wrong + ", 7)", IllegalArgumentException.class, () -> lists.space(wrong, 7));
+            EXPECT.refusal("space(7, " + wrong + ")", IllegalArgumentException.class, () -> lists.space(7, wrong));
         }
         EXPECT.refusal("space(-1, 9)", IllegalArgumentException.class, () -> lists.space(-1, 9));
     }
@@ -58,14 +61,22 @@ public final class SpaceTest {
         }
     }
 
+    /** "1 is thin; a, b, c are .. none in others" */
     private static void inSmallStyles() {
-        EXPECT.answer("ordinary, operator: thin in script", 7, () -> between(0, 1, 2));
-        EXPECT.answer("operator, operator: thin in small", 5, () -> between(1, 1, 3));
-        EXPECT.answer("inner, operator: thin in small", 5, () -> between(7, 1, 3));
-        EXPECT.answer("closing, operator: thin in script", 7, () -> between(5, 1, 2));
-        EXPECT.answer("point, operator: none in script", 0, () -> between(6, 1, 2));
-        EXPECT.answer("inner, inner: none in script", 0, () -> between(7, 7, 2));
-        EXPECT.answer("ordinary, binary: none in script", 0, () -> between(0, 2, 2));
-        EXPECT.answer("ordinary, relation: none in small", 0, () -> between(0, 3, 3));
+        int[] units = {10, 10, 7, 5};
+        for (int style = 2; style < 4; style++) {
+            for (int a = 0; a < 8; a++) {
+                for (int b = 0; b < 8; b++) {
+                    boolean beforeOperator = b == 1 && (a == 0 || a == 1 || a == 5 || a == 7);
+                    // A binary one behind an operator counts as ordinary.
+                    boolean behindOperator = a == 1 && (b == 0 || b == 2);
+                    int due = beforeOperator || behindOperator ? units[style] : 0;
+                    int first = a;
+                    int second = b;
+                    int in = style;
+                    EXPECT.answer("in style " + style + ": " + a + ", " + b, due, () -> between(first, second, in));
+                }
+            }
+        }
     }
 }

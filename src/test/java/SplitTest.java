@@ -8,11 +8,17 @@ public final class SplitTest {
         atEachRelation();
         openOrNot();
         atTheFirstNode();
+        atTheLastNode();
         styleNodesGoAlong();
         scriptsGoAlong();
         newListIsFree();
         undoesARing();
-        refusals();
+        relationsByTheirOwnKind();
+        relationsOfItsOwnAlone();
+        refusesListsThatAreNotThere();
+        refusesRelationsThatAreNotThere();
+        listsEnd();
+        nodesDoNotMatter();
         refusalsInTheirOrder();
         EXPECT.end();
     }
@@ -26,6 +32,7 @@ public final class SplitTest {
         return lists;
     }
 
+    /** "at its i-th relation (from 0)" */
     private static void atEachRelation() {
         FormulaLists first = twoRelations();
         EXPECT.answer("split(0, 0)", 1, () -> first.split(0, 0));
@@ -41,6 +48,7 @@ public final class SplitTest {
         EXPECT.answer("what goes then", 2, () -> second.run(2));
     }
 
+    /** "(which is not the open one, but if this one was)" */
     private static void openOrNot() {
         FormulaLists open = twoRelations();
         open.split(0, 1);
@@ -56,6 +64,7 @@ public final class SplitTest {
         EXPECT.answer("the next list has the next number", 3, () -> closed.atom(8, 0));
     }
 
+    /** "that one and all behind it": where it is the first, nothing stays. */
     private static void atTheFirstNode() {
         FormulaLists lists = new FormulaLists();
         lists.atom(3, 0);
@@ -67,6 +76,17 @@ public final class SplitTest {
         EXPECT.answer("nothing stays again", 0, () -> lists.run(1));
         lists.atom(0, 0);
         EXPECT.answer("the last one is open", 3, () -> lists.run(2));
+    }
+
+    private static void atTheLastNode() {
+        FormulaLists lists = new FormulaLists();
+        lists.atom(0, 0);
+        lists.atom(3, 0);
+        lists.split(0, 0);
+        EXPECT.answer("one stays", 1, () -> lists.run(0));
+        EXPECT.answer("one goes", 1, () -> lists.run(1));
+        EXPECT.answer("no relation is left", 2, () -> lists.atom(8, 0));
+        EXPECT.refusal("split(0, 0) again", IndexOutOfBoundsException.class, () -> lists.split(0, 0));
     }
 
     private static void styleNodesGoAlong() {
@@ -114,27 +134,106 @@ public final class SplitTest {
         EXPECT.refusal("node 0 is in list 3 by that", IllegalStateException.class, () -> lists.script(0, true, 3));
     }
 
-    private static void refusals() {
+    /** "as told, by its own kind": no other kind is one, and a style node neither. */
+    private static void relationsByTheirOwnKind() {
+        for (int kind = 0; kind < 8; kind++) {
+            FormulaLists lists = new FormulaLists();
+            int told = kind;
+            lists.atom(kind, 3);
+            lists.style(3, false);
+            if (told == 3) {
+                EXPECT.answer("split at kind 3", 1, () -> lists.split(0, 0));
+            } else {
+                EXPECT.refusal("split at kind " + kind, IndexOutOfBoundsException.class, () -> lists.split(0, 0));
+            }
+        }
+        FormulaLists parts = new FormulaLists();
+        for (int list = 1; list <= 5; list++) {
+            parts.atom(8, 0);
+        }
+        parts.fraction(1, 2, 3);
+        parts.fence(3, 3, 3);
+        parts.matrix(1, 1);
+        EXPECT.refusal("split at inner ones", IndexOutOfBoundsException.class, () -> parts.split(5, 0));
+    }
+
+    /** "its i-th relation": those of lists in its atoms are not its own. */
+    private static void relationsOfItsOwnAlone() {
+        FormulaLists lists = new FormulaLists();
+        lists.atom(0, 0);
+        lists.atom(8, 0);
+        lists.atom(3, 0);
+        lists.script(0, true, 1);
+        EXPECT.refusal("a relation in a script", IndexOutOfBoundsException.class, () -> lists.split(0, 0));
+        EXPECT.answer("the script itself", 2, () -> lists.split(1, 0));
+    }
+
+    /** "NoSuchElementException" */
+    private static void refusesListsThatAreNotThere() {
         FormulaLists lists = twoRelations();
-        lists.style(3, false);
         for (int wrong : new int[] {-1, 1, 30, Integer.MIN_VALUE, Integer.MAX_VALUE}) {
             EXPECT.refusal("split(" + wrong + ", 0)", NoSuchElementException.class, () -> lists.split(wrong, 0));
         }
-        for (int wrong : new int[] {-1, 2, Integer.MIN_VALUE, Integer.MAX_VALUE}) {
+        EXPECT.answer("no list was begun", 1, () -> lists.atom(8, 0));
+    }
+
+    /** "IndexOutOfBoundsException when it has none such" */
+    private static void refusesRelationsThatAreNotThere() {
+        FormulaLists lists = twoRelations();
+        lists.style(3, false);
+        for (int wrong : new int[] {-1, 2, 3, 4, Integer.MIN_VALUE, Integer.MAX_VALUE}) {
             EXPECT.refusal("split(0, " + wrong + ")", IndexOutOfBoundsException.class, () -> lists.split(0, wrong));
         }
         EXPECT.answer("nothing was split", 5, () -> lists.run(0));
+        lists.atom(0, 0);
+        EXPECT.answer("the list is still open", 6, () -> lists.run(0));
         EXPECT.answer("no list was begun", 1, () -> lists.atom(8, 0));
         EXPECT.refusal("an empty list", IndexOutOfBoundsException.class, () -> lists.split(1, 0));
     }
 
+    /** "UnsupportedOperationException when there are 30 lists": the 30th is split off, the next one is not. */
+    private static void listsEnd() {
+        FormulaLists lists = twoRelations();
+        for (int list = 1; list < 29; list++) {
+            lists.atom(8, 0);
+        }
+        EXPECT.answer("the 30th list", 29, () -> lists.split(0, 1));
+        EXPECT.refusal("one more", UnsupportedOperationException.class, () -> lists.split(0, 0));
+        EXPECT.answer("nothing was split again", 3, () -> lists.run(0));
+        lists.atom(0, 0);
+        EXPECT.answer("the open list is as it was", 1, () -> lists.run(28));
+        FormulaLists over = new FormulaLists();
+        over.atom(3, 0);
+        for (int list = 1; list < 30; list++) {
+            int before = list - 1;
+            EXPECT.answer("split over and over", list, () -> over.split(before, 0));
+        }
+        EXPECT.refusal("and no more", UnsupportedOperationException.class, () -> over.split(29, 0));
+        over.atom(0, 0);
+        EXPECT.answer("the last one is open", 2, () -> over.run(29));
+    }
+
+    /** 120 nodes are no hindrance: a split makes none. */
+    private static void nodesDoNotMatter() {
+        FormulaLists lists = twoRelations();
+        for (int node = 5; node < 120; node++) {
+            lists.atom(0, 0);
+        }
+        EXPECT.answer("split of 120 nodes", 1, () -> lists.split(0, 0));
+        EXPECT.answer("what stays", 1, () -> lists.run(0));
+        EXPECT.answer("what goes", 119, () -> lists.run(1));
+    }
+
+    /** "it is the one that it names first" */
     private static void refusalsInTheirOrder() {
         FormulaLists lists = twoRelations();
+        EXPECT.refusal("no list, and no relation", NoSuchElementException.class, () -> lists.split(1, -1));
         for (int list = 1; list < 30; list++) {
             lists.atom(8, 0);
         }
         EXPECT.refusal("no list goes first", NoSuchElementException.class, () -> lists.split(30, 5));
         EXPECT.refusal("then the relation", IndexOutOfBoundsException.class, () -> lists.split(0, 2));
+        EXPECT.refusal("an empty list, and 30 lists", IndexOutOfBoundsException.class, () -> lists.split(29, 0));
         EXPECT.refusal("then 30 lists", UnsupportedOperationException.class, () -> lists.split(0, 0));
         EXPECT.answer("nothing was split", 5, () -> lists.run(0));
     }

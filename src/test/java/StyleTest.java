@@ -4,7 +4,12 @@ public final class StyleTest {
 
     public static void main(String[] args) {
         numbers();
-        refusals();
+        otherStyles();
+        nodesEnd();
+        refusalsInTheirOrder();
+        lastInItsList();
+        theLastOfSeveral();
+        crampedOrNot();
         sizes();
         spaces();
         endsWithItsList();
@@ -19,19 +24,76 @@ public final class StyleTest {
         EXPECT.answer("style nodes are no items", 1, () -> lists.run(0));
     }
 
-    private static void refusals() {
+    /** "IllegalArgumentException": a style too small, or too large; 0 and 3 are none. */
+    private static void otherStyles() {
         FormulaLists lists = new FormulaLists();
         for (int wrong : new int[] {-1, 4, Integer.MIN_VALUE, Integer.MAX_VALUE}) {
             EXPECT.refusal("style(" + wrong + ", true)", IllegalArgumentException.class, () -> lists.style(wrong, true));
+            EXPECT.refusal("style(" + wrong + ", false)", IllegalArgumentException.class, () -> lists.style(wrong, false));
         }
+        EXPECT.answer("style(0, true)", 0, () -> lists.style(0, true));
+        EXPECT.answer("style(3, false)", 1, () -> lists.style(3, false));
+    }
+
+    /** "UnsupportedOperationException": the 120th node is made, the next one is not. */
+    private static void nodesEnd() {
+        FormulaLists lists = new FormulaLists();
         for (int node = 0; node < 120; node++) {
             int due = node;
             EXPECT.answer("style node " + node, due, () -> lists.style(2, false));
         }
         EXPECT.refusal("120 nodes", UnsupportedOperationException.class, () -> lists.style(2, false));
-        EXPECT.refusal("120 nodes and no such style", IllegalArgumentException.class, () -> lists.style(4, false));
         EXPECT.refusal("120 nodes, an atom", UnsupportedOperationException.class, () -> lists.atom(0, 0));
         EXPECT.answer("run(0)", 0, () -> lists.run(0));
+        EXPECT.sizes("nothing but styles", lists, 0, 0, 0);
+    }
+
+    /** "it is the one that it names first" */
+    private static void refusalsInTheirOrder() {
+        FormulaLists lists = new FormulaLists();
+        for (int node = 0; node < 120; node++) {
+            lists.atom(0, 0);
+        }
+        EXPECT.refusal("style 4, and 120 nodes", IllegalArgumentException.class, () -> lists.style(4, false));
+        EXPECT.refusal("style -1, and 120 nodes", IllegalArgumentException.class, () -> lists.style(-1, true));
+        EXPECT.refusal("120 nodes", UnsupportedOperationException.class, () -> lists.style(3, true));
+    }
+
+    /** "for those behind it in the list": nothing is behind the last one. */
+    private static void lastInItsList() {
+        FormulaLists lists = new FormulaLists();
+        lists.atom(0, 0);
+        lists.style(3, true);
+        lists.run(0);
+        EXPECT.item("before a style", lists, 0, 0, 0, 0, 10, 40, 0, 0, 0);
+        EXPECT.sizes("before a style", lists, 40, 50, 0);
+    }
+
+    private static void theLastOfSeveral() {
+        FormulaLists lists = new FormulaLists();
+        lists.style(2, true);
+        lists.style(3, false);
+        lists.style(1, false);
+        lists.atom(1, 0);
+        lists.run(0);
+        EXPECT.answer("three styles in a row", 10, () -> lists.item(0, 3));
+    }
+
+    /** "a style node changes the style (and whether it is cramped)": also back again. */
+    private static void crampedOrNot() {
+        FormulaLists lists = new FormulaLists();
+        lists.style(1, true);
+        lists.atom(0, 0);
+        lists.style(1, false);
+        lists.atom(0, 0);
+        for (int node : new int[] {1, 3}) {
+            int upper = lists.atom(8, 0);
+            lists.atom(0, 0);
+            lists.script(node, true, upper);
+        }
+        lists.run(0);
+        EXPECT.answer("cramped", 30, () -> lists.item(1, 2));
+        EXPECT.answer("cramped no more", 40, () -> lists.item(3, 2));
     }
 
     private static void sizes() {
