@@ -214,6 +214,22 @@ public final class MatrixTest {
         one.matrix(1, 1);
         one.run(2);
         EXPECT.sizes("one empty list stands on the axis", one, 0, 20, 0);
+        emptyRowOrColumn();
+    }
+
+    private static void emptyRowOrColumn() {
+        FormulaLists row = withLists(0);
+        row.atom(8, 0);
+        row.matrix(2, 1);
+        row.run(3);
+        // 50 and 20 between the rows and nothing: 70 in all, from -15.
+        EXPECT.item("above an empty row", row, 0, 0, 0, 5, 10, 40, 0, 0, 0);
+        EXPECT.sizes("with an empty row", row, 40, 55, 15);
+        FormulaLists column = withLists(0);
+        column.atom(8, 0);
+        column.matrix(1, 2);
+        column.run(3);
+        EXPECT.sizes("with an empty column", column, 40 + 30, 45, 5);
     }
 
     private static void manyCells() {
