@@ -145,6 +145,13 @@ public final class MatrixTest {
         EXPECT.answer("row 0", 110 - 70, () -> lists.item(0, 2));
         EXPECT.answer("row 1", -70 + 20, () -> lists.item(2, 2));
         EXPECT.sizes("rows of unlike depth", lists, 50 + 30 + 40, 110, 70);
+        FormulaLists low = withLists(0, 11, 0, 0);
+        low.matrix(2, 2);
+        low.run(5);
+        // Rows: 70 high and 20 deep; 50 high and not deep; 20 between: 160 in all, from -60.
+        EXPECT.answer("a high and deep row", 30, () -> low.item(0, 2));
+        EXPECT.answer("a low row below it", -60, () -> low.item(2, 2));
+        EXPECT.sizes("a low row below a high one", low, 40 + 30 + 50, 100, 60);
         FormulaLists wide = withLists(0, 5, 3);
         wide.matrix(1, 3);
         wide.run(4);

@@ -13,6 +13,9 @@ public final class RunTest {
         smallerThanBefore();
         deepFences();
         deepScripts();
+        deepLowerScripts();
+        deepMatrices();
+        deepFractions();
         manyRuns();
         mostItems();
         EXPECT.end();
@@ -142,6 +145,53 @@ public final class RunTest {
         // The first is at 40, the second 28 above it, the others 20 each.
         EXPECT.answer("the last one's line", 40 + 28 + 27 * 20, () -> lists.item(29, 2));
         EXPECT.answer("the last one's x", 40 + 28 + 27 * 20, () -> lists.item(29, 1));
+    }
+
+    private static void deepLowerScripts() {
+        FormulaLists lists = new FormulaLists();
+        for (int list = 1; list < 30; list++) {
+            lists.atom(0, 0);
+            lists.atom(8, 0);
+            lists.script(list - 1, false, list);
+        }
+        lists.atom(0, 0);
+        EXPECT.answer("29 lower scripts, one at another", 30, () -> lists.run(0));
+        // The first is at -20, the second 14 below it, the others 10 each.
+        EXPECT.answer("the last lower one's line", -(20 + 14 + 27 * 10), () -> lists.item(29, 2));
+    }
+
+    private static void deepMatrices() {
+        FormulaLists lists = new FormulaLists();
+        lists.atom(8, 0);
+        lists.atom(0, 0);
+        for (int list = 2; list < 30; list++) {
+            lists.atom(8, 0);
+            lists.matrix(1, 1);
+        }
+        EXPECT.answer("28 matrices, one in another", 1, () -> lists.run(29));
+        // 50 in all, 25 below the axis: the outer ones find it so already.
+        EXPECT.item("the innermost sign", lists, 0, 0, 0, -5, 10, 40, 0, 0, 0);
+        EXPECT.sizes("28 matrices", lists, 40, 45, 5);
+    }
+
+    /** Two lists each: 14 fractions, in their upper lists or in their lower ones. */
+    private static void deepFractions() {
+        for (boolean over : new boolean[] {false, true}) {
+            FormulaLists lists = new FormulaLists();
+            int inner = lists.atom(8, 0);
+            lists.atom(0, 0);
+            for (int fraction = 1; fraction <= 14; fraction++) {
+                int held = inner;
+                int empty = lists.atom(8, 0);
+                inner = lists.atom(8, 0);
+                int due = fraction;
+                EXPECT.answer("fraction " + fraction, due, () -> over ? lists.fraction(held, empty, 0) : lists.fraction(empty, held, 0));
+            }
+            int outermost = inner;
+            EXPECT.answer("14 fractions, one in another", 1, () -> lists.run(outermost));
+            // The sign is 20 wide, and each fraction Z more than what it holds: 10 and 10, 7, and 11 times 5.
+            EXPECT.answer("width of 14 fractions", 20 + 20 + 7 + 11 * 5, () -> lists.item(-1, 0));
+        }
     }
 
     private static void manyRuns() {
